@@ -122,6 +122,11 @@ public final class RideTest {
         Due.same("26 ten a day", x.sore(1, 2, 0), 90);
         Due.same("26 rest", x.rest(100), 0);
         Due.same("26 none is below 0", x.sore(1, 2, 0), 0);
+        x.ride(3, 0, 0, 490, 1, 1);
+        x.rest(2);
+        for (int section = 0; section < 7; section++) {
+            Due.same("26 each section", x.sore(3, section, 0), 72 - 40 - 20);
+        }
         for (int days : new int[] {0, 101, -1, Integer.MAX_VALUE}) {
             Due.refuses("26 rest", Due.ARGUMENT, t -> t.ride(0, 0, 0, 900, 1, 1), t -> t.rest(days));
         }

@@ -99,6 +99,18 @@ public final class StrapTest {
         Due.same("12 beyond the ring", x.bears(3, 0, 1, 101), 0);
         Due.same("12 ahead of anything that breaks", x.bears(0, 0, 2, 9999), 5000);
         Due.same("12 the least force", x.bears(0, 1, 0, 1), 1);
+        x.unbuckle(0);
+        x.unbuckle(1);
+        x.buckle(5, 0, 1, 0);
+        x.buckle(1, 0, 1, 0);
+        x.unbuckle(2);
+        x.unbuckle(3);
+        x.buckle(3, 1, 0, 0);
+        Due.same("12 shared by two of three", x.bears(1, 0, 1, 100), 50);
+        x.unbuckle(1);
+        x.unbuckle(5);
+        x.buckle(2, 0, 1, 0);
+        Due.same("12 not shared with a longer one of a lower number", x.bears(3, 0, 1, 100), 100);
         for (int[] a : new int[][] {{6, 0, 0, 0}, {-1, 0, 1, 1}, {0, -1, 1, 1}, {0, 8, 1, 1}, {0, 1, -1, 1}, {0, 1, 8, 0}}) {
             Due.refuses("12 bears", Due.INDEX, t -> straps(t, 3, 3, 4, 3, 3, 5), t -> t.bears(a[0], a[1], a[2], a[3]));
         }
@@ -123,6 +135,13 @@ public final class StrapTest {
         x.buckle(2, 0, 3, 0);
         x.buckle(5, 3, 7, 0);
         isWay("13 the least sum", x, 0, 7, 0, 7);
+        x.unbuckle(2);
+        x.cut(0, 0, 1, 12, 1, true);
+        x.pierce(6, 45);
+        x.buckle(6, 3, 0, 0);
+        isWay("13 the least sum", x, 3, 0, 3, 7, 0);
+        x.unbuckle(6);
+        x.buckle(2, 0, 3, 0);
         x.unbuckle(0);
         isWay("13 round", x, 7, 0, 7, 3, 0);
         isWay("13 there is no way", x, 0, 1);
@@ -282,7 +301,16 @@ public final class StrapTest {
         x.skive(1, 4);
         Due.same("15 the weakest strap of a step", x.holds(0, 2), 90);
         Due.same("15 as many do not break", x.pull(0, 2, 90), 0);
-        Due.same("15 at most 9999", many().holds(0, 1), 9999);
+        Saddletree all = many();
+        Due.same("15 at most 9999", all.holds(0, 1), 9999);
+        Due.same("14 forty straps", all.pull(0, 1, 9999), 0);
+        Due.same("14 each has its wear", all.part(39, 5), 25);
+        Due.same("14 no one breaks", all.pull(0, 1, 9999), 0);
+        for (int part = 0; part < 40; part++) {
+            all.skive(part, 1);
+        }
+        Due.same("14 forty straps break", all.pull(1, 0, 9999), 40);
+        Due.same("15 there is no way", all.holds(0, 1), -1);
         Due.refuses("15 holds", Due.INDEX, t -> straps(t, 3), t -> t.holds(8, 8));
         Due.refuses("15 holds", Due.INDEX, t -> straps(t, 3), t -> t.holds(-1, 0));
         Due.refuses("15 holds", Due.INDEX, t -> straps(t, 3), t -> t.holds(0, -1));

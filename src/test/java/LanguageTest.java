@@ -1,0 +1,44 @@
+import java.nio.charset.StandardCharsets;
+import java.nio.file.Files;
+import java.nio.file.Path;
+import java.util.regex.Matcher;
+import java.util.regex.Pattern;
+
+/** Rules of LANGUAGE.md that can be seen in the text of the program; run from the project's folder. */
+public final class LanguageTest {
+    private static final String[] RULED_OUT = {
+        "->", "::", "\\bimport\\b", "\\bpackage\\b", "\\btry\\b", "\\bcatch\\b", "\\bfinally\\b", "\\bsynchronized\\b",
+        "\\bassert\\b", "\\bwhile\\b", "\\w+Exact\\b", "\\bSystem\\b", "\\bObject\\b", "\\binstanceof\\b",
+        "\\bprotected\\b", "\\bequals\\b", "\\bhashCode\\b", "\\btoString\\b", "\\bdouble\\b", "\\bfloat\\b",
+        "\\bstatic\\s*\\{", "@\\w+", "[^\\x00-\\x7F]",
+    };
+
+    public static void main(String[] args) throws Exception {
+        String text = Files.readString(Path.of("src/main/java/Saddletree.java"), StandardCharsets.ISO_8859_1);
+        String code = text.replaceAll("/\\*(?s:.*?)\\*/", "").replaceAll("//.*", "").replaceAll("\"[^\"]*\"", "\"\"");
+        for (String ruledOut : RULED_OUT) {
+            Matcher found = Pattern.compile(ruledOut).matcher(code);
+            Due.same("the program with " + ruledOut, found.find() ? found.group() : "none", "none");
+        }
+        Matcher thrown = Pattern.compile("throw(?! new (IndexOutOfBounds|IllegalArgument|IllegalState)Exception\\()\\b(?!s)")
+                .matcher(code);
+        Due.same("another exception", thrown.find(), false);
+        Matcher state = Pattern.compile("\\bstatic (?!final\\b)[\\w\\[\\]]+ \\w+\\s*[=;,]").matcher(code);
+        Due.same("static state", state.find(), false);
+        methodsAreShort(text);
+        Due.end();
+    }
+
+    private static void methodsAreShort(String text) {
+        String[] lines = text.split("\n");
+        int start = -1;
+        for (int i = 0; i < lines.length; i++) {
+            boolean opens = lines[i].matches(" {4,8}[^ }*/].*\\{") && !lines[i].contains(" class ");
+            start = opens && lines[i].contains("(") ? i : start;
+            if (lines[i].matches(" {4,8}\\}") && start >= 0) {
+                Due.same("a method of some sixty lines, from line " + (start + 1), i - start <= 60, true);
+                start = -1;
+            }
+        }
+    }
+}
