@@ -55,7 +55,7 @@ final class Due {
     }
 
     /** Some 350 calls, so that a setup has 150 of the object's 512. */
-    private static List<String> state(Saddletree tree) {
+    static List<String> state(Saddletree tree) {
         List<Call> calls = new ArrayList<>();
         for (int part = 0; part < 6; part++) {
             for (int what = 0; what <= 10; what++) {
