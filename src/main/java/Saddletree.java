@@ -339,18 +339,15 @@ public final class Saddletree {
         int depth = seat.depthBySearch(weight * gait);
         int sorer = 0;
         for (int section = 0; section < SECTIONS; section++) {
+            // the gaps were measured ahead of the loop, so flock that settles here changes no pressure of this ride
             int pressed = seat.pressureAt(section, depth);
-            if (pressed > SORE_ABOVE) {
-                int amount = (pressed - SORE_ABOVE) * hours;
-                ridden.sores[section] += amount;
-                ridden.blame(section, BY_SADDLE, saddle, amount);
-                ridden.blame(section, BY_RIDER, rider, amount);
-                ridden.blame(section, BY_GAIT, gait, amount);
+            int amount = Math.max(0, pressed - SORE_ABOVE) * hours;
+            if (amount > 0) {
+                ridden.makeSorer(section, amount, saddle, rider, gait);
                 sorer++;
             }
-            // the gaps were measured ahead of the loop, so flock that settles here changes no pressure of this ride
-            if (pressed > SETTLES_ABOVE && under.flocks[section] > 0) {
-                under.flocks[section]--;
+            if (pressed > SETTLES_ABOVE) {
+                under.settle(section);
             }
         }
         return sorer;
@@ -844,7 +841,14 @@ public final class Saddletree {
             }
         }
 
-        void blame(int section, int by, int who, int amount) {
+        void makeSorer(int section, int amount, int saddle, int rider, int gait) {
+            sores[section] += amount;
+            blame(section, BY_SADDLE, saddle, amount);
+            blame(section, BY_RIDER, rider, amount);
+            blame(section, BY_GAIT, gait, amount);
+        }
+
+        private void blame(int section, int by, int who, int amount) {
             blames[(section * BYS + by) * SHARERS + who] += amount;
         }
 
@@ -860,6 +864,10 @@ public final class Saddletree {
         Saddle() {
             heights = new int[SECTIONS];
             flocks = new int[SECTIONS];
+        }
+
+        void settle(int section) {
+            flocks[section] = Math.max(0, flocks[section] - 1);
         }
     }
 

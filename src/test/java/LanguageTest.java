@@ -1,6 +1,13 @@
+import java.lang.reflect.Method;
+import java.lang.reflect.Modifier;
 import java.nio.charset.StandardCharsets;
 import java.nio.file.Files;
 import java.nio.file.Path;
+import java.util.ArrayList;
+import java.util.Arrays;
+import java.util.List;
+import java.util.Set;
+import java.util.TreeSet;
 import java.util.regex.Matcher;
 import java.util.regex.Pattern;
 
@@ -26,7 +33,34 @@ public final class LanguageTest {
         Matcher state = Pattern.compile("\\bstatic (?!final\\b)[\\w\\[\\]]+ \\w+\\s*[=;,]").matcher(code);
         Due.same("static state", state.find(), false);
         methodsAreShort(text);
+        classesAreSmall();
         Due.end();
+    }
+
+    private static void classesAreSmall() {
+        Set<String> face = new TreeSet<>();
+        for (Method method : Saddletree.class.getDeclaredMethods()) {
+            if (Modifier.isPublic(method.getModifiers())) {
+                face.add(method.getName());
+            }
+        }
+        List<Class<?>> classes = new ArrayList<>(List.of(Saddletree.class.getDeclaredClasses()));
+        for (Class<?> inside : classes) {
+            int modifiers = inside.getModifiers();
+            Due.same(inside + " is static", Modifier.isStatic(modifiers), true);
+            Due.same(inside + " is hidden", Modifier.isPublic(modifiers) || Modifier.isProtected(modifiers), false);
+        }
+        classes.add(Saddletree.class);
+        Due.same("some twelve classes", classes.size() <= 12, true);
+        for (Class<?> one : classes) {
+            long fields = Arrays.stream(one.getDeclaredFields()).filter(f -> !Modifier.isStatic(f.getModifiers())).count();
+            Due.same("some twenty fields of " + one, fields <= 20, true);
+            for (Method method : one.getDeclaredMethods()) {
+                boolean isFace = one == Saddletree.class && Modifier.isPublic(method.getModifiers());
+                Due.same("at most seven parameters of " + method, method.getParameterCount() <= 7, true);
+                Due.same("a name of the face for " + method, !isFace && face.contains(method.getName()), false);
+            }
+        }
     }
 
     private static void methodsAreShort(String text) {
